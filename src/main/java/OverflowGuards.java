@@ -57,6 +57,7 @@ public final class OverflowGuards {
 
     private final Inputs trialInputs = new Inputs();
     private final Analysis trialAnalysis = new Analysis();
+    private final Run trialRun = new Run();
 
     public OverflowGuards() {
     }
@@ -265,8 +266,8 @@ public final class OverflowGuards {
     }
 
     /**
-     * Looks at blocks of inputs and makes them smaller where a check can fail. With a block of one
-     * input each range is one number, and the analysis is then the plain run itself.
+     * Looks at blocks of inputs by ranges, since one look can tell that none of them fails, and makes
+     * the blocks smaller where a check can fail, down to one input and a plain run with it.
      */
     public int failingInput(int variable) throws IndexOutOfBoundsException {
         requireVariable(variable);
@@ -276,12 +277,15 @@ public final class OverflowGuards {
         int width = TRIAL_WIDTH;
         for (int trial = 0; trial <= TRIAL_WIDTH + INPUTS_AHEAD && from <= last; trial++) {
             long to = Math.min(from + width, last);
-            if (!canFailBetween(variable, (int) from, (int) to)) {
-                from = to + 1;
-            } else if (from == to) {
-                return (int) from;
-            } else {
+            if (from == to) {
+                if (failsWith(variable, (int) from)) {
+                    return (int) from;
+                }
+                from++;
+            } else if (canFailBetween(variable, (int) from, (int) to)) {
                 width /= 2;
+            } else {
+                from = to + 1;
             }
         }
         return Integer.MIN_VALUE;
@@ -416,6 +420,12 @@ public final class OverflowGuards {
         trialInputs.high[variable] = to;
         trialAnalysis.go(present.program, trialInputs);
         return trialAnalysis.openChecks > 0;
+    }
+
+    private boolean failsWith(int variable, int value) {
+        trialInputs.value[variable] = value;
+        trialRun.goPlain(present.program, trialInputs);
+        return trialRun.failedAt != NONE;
     }
 
     private static boolean isInt(long value) {

@@ -7,6 +7,14 @@ final class Due {
     private static final int PRINTED = 50;
     private int wrong = 0;
     private int asked = 0;
+    private int sentences = 0;
+    private String place = "";
+
+    /** What is asked from here on belongs to this sentence of the document. */
+    void sentence(String where, String words) {
+        sentences++;
+        place = where + ", \"" + words + "\": ";
+    }
 
     void same(String what, long got, long want) {
         asked++;
@@ -37,6 +45,14 @@ final class Due {
         same("digest after " + what, x.digest(), before);
     }
 
+    void takes(String what, Call call) {
+        String got = thrownBy(call);
+        asked++;
+        if (!got.equals("nothing")) {
+            tell(what + " threw " + got + ", due is an answer");
+        }
+    }
+
     static String thrownBy(Call call) {
         try {
             call.answer();
@@ -49,11 +65,14 @@ final class Due {
     private void tell(String line) {
         wrong++;
         if (wrong <= PRINTED) {
-            System.out.println(line);
+            System.out.println(place + line);
         }
     }
 
     void end() {
+        if (sentences > 0) {
+            System.out.println(sentences + " sentences of the document");
+        }
         System.out.println(wrong == 0
                 ? "all " + asked + " answers are as due"
                 : wrong + " of " + asked + " answers are not as due");

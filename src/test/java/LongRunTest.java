@@ -48,7 +48,7 @@ public final class LongRunTest {
         String text = "2{a=a+b;3{c=c+a;}}d=a*c;e=d-1;";
         Due.parsed(x, text.substring(0, random.nextInt(text.length() + 1)));
         for (int n = text.length(); n < 512; n++) {
-            int which = random.nextInt(26);
+            int which = random.nextInt(Calls.COUNT);
             int a = ODD[random.nextInt(ODD.length)];
             int b = ODD[random.nextInt(ODD.length)];
             int c = ODD[random.nextInt(ODD.length)];
@@ -72,33 +72,7 @@ public final class LongRunTest {
     }
 
     private static long call(OverflowGuards x, int which, int a, int b, int c) {
-        return switch (which) {
-            case 0 -> x.append(a);
-            case 1 -> a == 0 ? x.clearText() : 0;
-            case 2 -> x.parse();
-            case 3 -> x.setRange(a, b, c);
-            case 4 -> x.setInput(a, b);
-            case 5 -> x.input(a, b);
-            case 6 -> x.remove(a);
-            case 7 -> x.instructions();
-            case 8 -> x.digest();
-            case 9 -> x.instruction(a, b);
-            case 10 -> x.operand(a, b > 0);
-            case 11 -> x.state(a);
-            case 12 -> x.states(a);
-            case 13 -> x.coveredBy(a);
-            case 14 -> x.range(a, b > 0);
-            case 15 -> x.finalRange(a, b > 0);
-            case 16 -> x.completes() ? 1 : 0;
-            case 17 -> x.failure(a > 0);
-            case 18 -> x.result(a, b > 0);
-            case 19 -> x.checks(a > 0);
-            case 20 -> x.executed();
-            case 21 -> (long) x.saving();
-            case 22 -> x.openWith(a, b, c);
-            case 23 -> x.safePower(a);
-            case 24 -> x.failingInput(a);
-            default -> x.undo();
-        };
+        boolean keepsTheText = which == Calls.CLEAR_TEXT && a != 0;
+        return keepsTheText ? 0 : Calls.make(x, which, a, b, c);
     }
 }
