@@ -272,6 +272,17 @@ public final class BoundaryPromisesTest {
             same("depth of " + i, nested.instruction(i, 2), depths[i]);
         }
         same("the coverer's number", coverAfterRemove(), 1);
+        OverflowGuards kinds = Due.with("a=1;b=c+2;d=e-3;f=4*g;h=b;");
+        int[][] due = {{1, 1, 2, 20002}, {2, 3, 4, 20003}, {3, 5, 20004, 6}, {0, 7, 1, NONE}};
+        for (int gone = 0; gone < 4; gone++) {
+            kinds.remove(0);
+            for (int i = 0; i < kinds.instructions(); i++) {
+                same("kind of " + i, kinds.instruction(i, 0), due[i + gone][0]);
+                same("result of " + i, kinds.instruction(i, 1), due[i + gone][1]);
+                same("first of " + i, kinds.operand(i, false), due[i + gone][2]);
+                same("second of " + i, kinds.operand(i, true), due[i + gone][3]);
+            }
+        }
     }
 
     private static int coverAfterRemove() {
@@ -396,6 +407,12 @@ public final class BoundaryPromisesTest {
             same("low end of " + i, x.range(i, false), 0);
             same("high end of " + i, x.range(i, true), 0);
         }
+        x.setRange(0, -5, -3);
+        same("low end when it is reached", x.range(2, false), 14);
+        same("high end when it is reached", x.range(2, true), 14);
+        x.setRange(0, MIN, MIN);
+        same("low end, not reached again", x.range(2, false), 0);
+        same("high end, not reached again", x.range(2, true), 0);
         DUE.sentence("Promise 15", "before they are cut, at all of its executions in the analysis");
         OverflowGuards y = Due.with("2{b=a-1;a=a+a;}");
         y.setRange(0, MIN, MAX);
@@ -743,6 +760,47 @@ public final class BoundaryPromisesTest {
         }
         x.undo();
         same("three are left", x.digest(), newDigest(200, 3));
+        DUE.sentence("Promise 27", "the number of instructions and, for each of them, "
+                + "the values of instruction() for what = 0 to 3");
+        OverflowGuards all = allStates();
+        same("every state", all.digest(), digestByFace(all, 55, 4));
+        OverflowGuards cut = Due.with("d=a+b;e=d-c;3{f=f+a;2{g=h*_9999;}}");
+        cut.setRange(0, MIN, MAX);
+        cut.setRange(2, MIN, MAX);
+        cut.setInput(0, -9);
+        same("negative ends and results", cut.digest(), digestByFace(cut, 34, 4));
+        cut.setInput(2, MIN);
+        same("failing", cut.digest(), digestByFace(cut, 34, 4));
+        OverflowGuards full = Due.with("h=1;".repeat(30));
+        same("thirty", full.digest(), digestByFace(full, 120, 1));
+        full.remove(29);
+        full.clearText();
+        same("twenty-nine and no text", full.digest(), digestByFace(full, 0, 2));
+    }
+
+    private static long digestByFace(OverflowGuards x, int length, int saved) {
+        long h = 31 * (31 * 2953L + length) + x.instructions();
+        for (int i = 0; i < x.instructions(); i++) {
+            for (int what = 0; what <= 3; what++) {
+                h = 31 * h + x.instruction(i, what);
+            }
+            h = 31 * (31 * h + x.operand(i, false)) + x.operand(i, true);
+            h = 31 * (31 * h + x.state(i)) + x.coveredBy(i);
+        }
+        for (int v = 0; v < 8; v++) {
+            for (int what = 0; what <= 2; what++) {
+                h = 31 * h + x.input(v, what);
+            }
+            h = 31 * (31 * h + x.finalRange(v, false)) + x.finalRange(v, true);
+        }
+        for (boolean optimized : new boolean[] {false, true}) {
+            h = 31 * h + x.failure(optimized);
+            for (int v = 0; v < 8; v++) {
+                h = 31 * h + x.result(v, optimized);
+            }
+            h = 31 * h + x.checks(optimized);
+        }
+        return 31 * (31 * h + x.executed()) + saved;
     }
 
     /** The values of a new object, written out. */

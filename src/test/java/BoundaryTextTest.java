@@ -341,6 +341,13 @@ public final class BoundaryTextTest {
         same("a kind", x.instruction(0, 0), 4);
         same("a result", x.result(0, true), 2);
         same("one state is saved", x.undo(), 0);
+        for (String open : new String[] {"2{", "2{3{", "2{3", "a=", "a=b+_", "a=1;".repeat(30) + "2{"}) {
+            DUE.yes("an error of " + open, Due.parsed(x, open) < 0);
+            same("nothing is open behind it", Due.parsed(x, "}"), -10);
+            same("two loops can be opened behind it", Due.parsed(x, "2{3{}}"), 4);
+            same("no depth is left", x.instruction(0, 2), 0);
+            same("thirty instructions", Due.parsed(x, "a=1;".repeat(30)), 30);
+        }
         Due.write(x, "?");
         same("the least position", x.parse(), -10);
         Due.write(x, "a=_9999+_9999;".repeat(14) + "h=12");
