@@ -30,6 +30,7 @@ public final class BoundaryTermsTest {
         oneOfTheseStates();
         dead();
         dropped();
+        joinedHoistedKept();
         DUE.end();
     }
 
@@ -469,5 +470,30 @@ public final class BoundaryTermsTest {
         x.setRange(1, 1, 1);
         Due.parsed(x, "e=a*b;");
         same("product up to MAX", x.state(0), 1);
+    }
+
+    private static void joinedHoistedKept() {
+        DUE.sentence("States of checks",
+                "2 joined: its check can fail, and there is an instruction that covers it");
+        OverflowGuards x = Due.with("3{d=d+a;e=d+b;}");
+        x.setRange(0, 0, 715827849);
+        x.setRange(1, 0, MAX);
+        // 100 + 3 * 715827849 = MAX
+        same("it cannot fail", x.state(1), 1);
+        x.setRange(0, 0, 715827850);
+        same("it can fail and is covered", x.state(1), 2);
+        DUE.sentence("States of checks",
+                "3 hoisted: its check can fail, it is not joined, and it is moved in front of a loop");
+        x.setRange(1, -1, MAX);
+        same("it can fail and is not covered", x.state(1), 3);
+        x.setRange(0, 0, 715827849);
+        same("it cannot fail and is not moved", x.state(1), 1);
+        DUE.sentence("States of checks", "4 kept: otherwise.");
+        same("neither joined nor moved", x.state(2), 4);
+        Due.parsed(x, "d=d+a;e=d+b;");
+        x.setRange(0, 0, MAX);
+        same("in no loop and not covered", x.state(0), 4);
+        x.setRange(1, 0, MAX);
+        same("in no loop and covered", x.state(0), 2);
     }
 }
