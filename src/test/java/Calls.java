@@ -1,4 +1,7 @@
-/** Each method of the face by a number, so that tests can go through all of them. */
+import java.lang.reflect.InvocationTargetException;
+import java.lang.reflect.Method;
+
+/** Each method of the face by a number, so that tests can go through all of them, or by its name. */
 final class Calls {
     static final int COUNT = 26;
     static final int APPEND = 0;
@@ -36,11 +39,39 @@ final class Calls {
             case 18 -> x.result(a, b > 0);
             case 19 -> x.checks(a > 0);
             case 20 -> x.executed();
-            case 21 -> (long) x.saving();
+            case 21 -> Double.doubleToLongBits(x.saving());
             case 22 -> x.openWith(a, b, c);
             case 23 -> x.safePower(a);
             case 24 -> x.failingInput(a);
             default -> x.undo();
         };
+    }
+
+    /** What a call written as "setRange(0, 1, 0)" answers: a number, true, false, or "throws" and a name. */
+    static String answer(OverflowGuards x, String call) {
+        String name = call.substring(0, call.indexOf('('));
+        String inside = call.substring(call.indexOf('(') + 1, call.lastIndexOf(')')).strip();
+        String[] words = inside.isEmpty() ? new String[0] : inside.split(", *");
+        try {
+            for (Method method : OverflowGuards.class.getMethods()) {
+                if (method.getName().equals(name) && method.getParameterCount() == words.length) {
+                    return "" + method.invoke(x, arguments(method, words));
+                }
+            }
+            return "is no call of the face";
+        } catch (InvocationTargetException e) {
+            return "throws " + e.getCause().getClass().getSimpleName();
+        } catch (IllegalAccessException e) {
+            return "cannot be called";
+        }
+    }
+
+    private static Object[] arguments(Method method, String[] words) {
+        Object[] all = new Object[words.length];
+        for (int n = 0; n < words.length; n++) {
+            boolean isFlag = method.getParameterTypes()[n] == boolean.class;
+            all[n] = isFlag ? (Object) Boolean.valueOf(words[n]) : (Object) Integer.valueOf(words[n]);
+        }
+        return all;
     }
 }

@@ -85,6 +85,10 @@ final class Due {
         return wrong;
     }
 
+    int asked() {
+        return asked;
+    }
+
     static void write(OverflowGuards x, String text) {
         x.clearText();
         for (int i = 0; i < text.length(); i++) {

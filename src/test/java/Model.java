@@ -524,7 +524,7 @@ final class Model {
             Ran ran = run(mode == 1);
             all.add((long) ran.failure);
             for (int v = 0; v < 8; v++) {
-                all.add((long) ran.value[v].intValueExact());
+                all.add((long) ran.value[v].intValue());
             }
             all.add((long) ran.checks);
         }

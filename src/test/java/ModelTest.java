@@ -17,6 +17,7 @@ public final class ModelTest {
     private static final Due DUE = new Due();
 
     private final Random random;
+    private final RandomTexts texts;
     private final OverflowGuards x = new OverflowGuards();
     private final Model model = new Model();
     private final String run;
@@ -24,6 +25,7 @@ public final class ModelTest {
 
     private ModelTest(long seed) {
         random = new Random(seed);
+        texts = new RandomTexts(random);
         run = "run " + seed + " ";
     }
 
@@ -53,7 +55,8 @@ public final class ModelTest {
     private void step() {
         switch (random.nextInt(8)) {
             case 0, 1 -> {
-                writeText(random.nextInt(4) == 0 ? spoiled(program()) : program());
+                String text = texts.program();
+                writeText(random.nextInt(4) == 0 ? texts.spoiled(text) : text);
                 DUE.same(run + "parse " + model.text, x.parse(), model.parse());
             }
             case 2 -> setRange(random.nextInt(8));
@@ -173,8 +176,8 @@ public final class ModelTest {
         DUE.same(run + "failure optimized", x.failure(true), optimized.failure);
         DUE.same(run + "both runs fail at the same place", plain.failure, optimized.failure);
         for (int v = 0; v < 8; v++) {
-            DUE.same(run + "result", x.result(v, false), plain.value[v].intValueExact());
-            DUE.same(run + "result optimized", x.result(v, true), optimized.value[v].intValueExact());
+            DUE.same(run + "result", x.result(v, false), plain.value[v].intValue());
+            DUE.same(run + "result optimized", x.result(v, true), optimized.value[v].intValue());
             DUE.same(run + "both results", x.result(v, true), x.result(v, false));
         }
         DUE.same(run + "checks", x.checks(false), plain.checks);
@@ -182,66 +185,5 @@ public final class ModelTest {
         DUE.same(run + "executed", x.executed(), plain.executed);
         DUE.sameDouble(run + "saving", x.saving(),
                 plain.checks == 0 ? 0.0 : 1.0 - (double) optimized.checks / (double) plain.checks);
-    }
-
-    // ---- texts
-
-    private String program() {
-        StringBuilder text = new StringBuilder();
-        statements(text, 0, 2 + random.nextInt(9));
-        return text.toString();
-    }
-
-    private void statements(StringBuilder text, int depth, int count) {
-        for (int n = 0; n < count; n++) {
-            if (depth < 2 && random.nextInt(5) == 0) {
-                text.append(random.nextInt(6) == 0 ? 40 : 1 + random.nextInt(7)).append('{');
-                statements(text, depth + 1, random.nextInt(5));
-                text.append('}');
-            } else {
-                statement(text);
-            }
-        }
-    }
-
-    private void statement(StringBuilder text) {
-        char v = letter();
-        text.append(v).append('=');
-        int kind = random.nextInt(10);
-        if (kind == 0) {
-            text.append(operand());
-        } else if (kind <= 3) {
-            String added = operand();
-            text.append(random.nextInt(3) == 0 ? added + "+" + v : v + "+" + added);
-        } else if (kind <= 7) {
-            text.append(operand()).append('+').append(operand());
-        } else {
-            text.append(operand()).append(kind == 8 ? '-' : '*').append(operand());
-        }
-        text.append(';');
-    }
-
-    private char letter() {
-        return (char) ('a' + random.nextInt(random.nextBoolean() ? 5 : 8));
-    }
-
-    private String operand() {
-        if (random.nextInt(6) > 0) {
-            return "" + letter();
-        }
-        return (random.nextInt(4) == 0 ? "_" : "") + random.nextInt(random.nextBoolean() ? 10 : 10000);
-    }
-
-    /** One byte is put in, taken out or changed, or the text is cut. */
-    private String spoiled(String text) {
-        String signs = "abhi=+-*;_0149{}, \0\177";
-        char sign = signs.charAt(random.nextInt(signs.length()));
-        int at = random.nextInt(text.length() + 1);
-        return switch (random.nextInt(4)) {
-            case 0 -> text.substring(0, at) + sign + text.substring(at);
-            case 1 -> text.substring(0, at) + sign + text.substring(Math.min(at + 1, text.length()));
-            case 2 -> text.substring(0, at) + text.substring(Math.min(at + 1, text.length()));
-            default -> text.substring(0, at);
-        };
     }
 }
