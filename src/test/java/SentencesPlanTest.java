@@ -99,6 +99,9 @@ public final class SentencesPlanTest {
             same("negative numbers of " + v, x.coveredBy(0), NONE);
             x.setRange(v, 0, MAX);
             same("no negative numbers of " + v, x.coveredBy(0), 1);
+            OverflowGuards turned = wide("e=b+a;f=c+e;");
+            turned.setRange(v, -1, MAX);
+            same("negative numbers of " + v + ", operands turned", turned.coveredBy(0), NONE);
             String down = (char) ('a' + v) + "=_1;";
             same("negative in the second round, " + v, wide("2{e=a+b;f=e+c;" + down + "}").coveredBy(1), NONE);
             same("in one round, " + v, wide("1{e=a+b;f=e+c;" + down + "}").coveredBy(1), 2);
@@ -121,6 +124,7 @@ public final class SentencesPlanTest {
         states("2{e=a+e;}", NONE, HOISTED, NONE);
         states("2{a=a+7;}", NONE, HOISTED, NONE);
         states("a=a+7;", KEPT);
+        states("2{}a=a+7;2{}", NONE, NONE, KEPT, NONE, NONE);
         states("2{e=a+b;}", NONE, KEPT, NONE);
         states("2{a=a-_7;}", NONE, KEPT, NONE);
         states("2{a=a*7;}", NONE, KEPT, NONE);
@@ -172,6 +176,12 @@ public final class SentencesPlanTest {
         same("21 * 102261127 > MAX: the third time", x.checks(true), 2 + 1 + 1 + 1 + 7);
         x.setInput(1, 102261126);
         same("21 * 102261126 = MAX - 1", x.checks(true), 2 + 3);
+        OverflowGuards turned = wide("5{a=b+a;}");
+        turned.setInput(0, 2);
+        turned.setInput(1, 429496729);
+        same("2 + 5 * 429496729 = MAX", turned.checks(true), 1);
+        turned.setInput(0, 3);
+        same("3 + 5 * 429496729 > MAX", turned.checks(true), 1 + 5);
         OverflowGuards down = Due.with("4{a=a+_5;}");
         down.setRange(0, MIN, 0);
         down.setInput(0, MIN + 20);
@@ -211,7 +221,8 @@ public final class SentencesPlanTest {
 
     /**
      * Taken by the word, an exact result above MAX may go down again before the covering check: e is
-     * used behind its cover, while the row of covers goes on. Then the optimized run does not fail.
+     * used behind its cover, while the row of covers goes on; or the analysis ends at the first of the
+     * row in a round in which a later one has a negative operand. Then the optimized run does not fail.
      */
     private static void notAlwaysThePlainRun() {
         OverflowGuards x = sums("e=a+b;f=e+c;g=d-e;f=f+c;f=f+g;", MAX, 5, 0);
@@ -225,6 +236,14 @@ public final class SentencesPlanTest {
         same("f", x.result(5, true), MAX);
         same("g is computed with the exact result", x.result(6, true), -5);
         same("one check", x.checks(true), 1);
+        OverflowGuards ends = wide("2{e=a+b;f=e+c;g=f+d;b=9999*9999;b=b*21;a=b;d=0-b;}");
+        same("the first of the row", ends.coveredBy(1), 2);
+        same("the second of the row", ends.coveredBy(2), 3);
+        DUE.yes("the analysis ends at the first in the second round", !ends.completes());
+        same("the plain run fails there", ends.failure(false), 1);
+        same("the last cover's exact result is an int", ends.failure(true), NONE);
+        same("g", ends.result(6, true), 9999 * 9999 * 21);
+        same("a check in each round", ends.checks(true), 2);
     }
 
     private static void outcomes() {

@@ -193,6 +193,8 @@ public final class SentencesPromisesTest {
         same("an error", y.parse(), -18);
         same("nothing changes", y.digest(), before);
         same("the program stays", y.instruction(0, 0), 4);
+        same("two open loops", Due.parsed(y, "2{3{"), -14);
+        same("none is open behind the error", Due.parsed(y, "}"), -10);
     }
 
     private static void setRange() {
@@ -688,7 +690,11 @@ public final class SentencesPromisesTest {
             same("2^" + bits, x.safePower(0), Math.min(due, TOP));
         }
         same("another variable", x.safePower(7), TOP);
-        // at the low end -3 the product with -2^30 fails, whatever the power is
+        Due.parsed(x, "b=a+c;");
+        x.setRange(2, 0, MAX);
+        same("2^0", x.safePower(0), 1);
+        Due.parsed(x, "b=a*c;");
+        // at the low end -2 the product with -2^30 fails, whatever the power is
         x.setRange(2, -TOP, -TOP);
         x.setRange(0, -1, 9);
         same("a low end that does not fail", x.safePower(0), 2);
@@ -733,6 +739,20 @@ public final class SentencesPromisesTest {
         long before = x.digest();
         x.failingInput(0);
         same("nothing has changed", x.digest(), before);
+        // with c = 2 inputs from 90 on fail, with c = 3 those from 60 on; by ranges all can fail
+        OverflowGuards y = Due.with("b=a-a;b=b*9999;b=b*9999;b=b*9999;d=a*c;d=d+e;");
+        y.setRange(4, MAX - 179, MAX - 179);
+        y.setRange(0, 0, 1000);
+        y.setInput(2, 2);
+        same("with the inputs of the others", y.failingInput(0), 90);
+        y.setInput(2, 3);
+        same("with another input of c", y.failingInput(0), 60);
+        y.setInput(0, 61);
+        same("from 61 on", y.failingInput(0), 61);
+        y.setInput(2, 1);
+        same("up to 261", y.failingInput(0), 180);
+        y.setInput(2, 0);
+        same("none of 201 fails", y.failingInput(0), MIN);
         DOC.says("- `variable`: 0 to 7");
         variables(x, v -> x.failingInput(v));
         DOC.says("Returns the input; Integer.MIN_VALUE if there is none.");
